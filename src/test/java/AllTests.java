@@ -1,0 +1,23 @@
+import java.nio.file.Path;
+
+/** All tests of the project. The argument is the path of HuntersIntroduced.java. */
+public final class AllTests {
+    private AllTests() {
+    }
+
+    public static void main(String[] args) throws Exception {
+        FacePromises.run(Path.of(args[0]));
+        ForestPromises.run();
+        TextPromises.run();
+        IntroductionPromises.run();
+        ShotPromises.run();
+        BestPromises.run();
+        ToldPromises.run();
+        LotsPromises.run();
+        HostPromises.run();
+        System.out.println(Check.summary());
+        if (Check.failed() != 0) {
+            System.exit(1);
+        }
+    }
+}
