@@ -1080,23 +1080,21 @@ public final class HuntersIntroduced {
                 } else if (step == -Reader.NOT && top >= 1) {
                     stack[top - 1] = stack[top - 1] == 0 ? 1 : 0;
                 } else if (top >= 2) {
+                    int a = stack[top - 2];
+                    int b = stack[top - 1];
                     top--;
-                    stack[top - 1] = joined(-step, stack[top - 1], stack[top]);
+                    switch (-step) {
+                        case Reader.OR: stack[top - 1] = a != 0 || b != 0 ? 1 : 0; break;
+                        case Reader.AND: stack[top - 1] = a != 0 && b != 0 ? 1 : 0; break;
+                        case '<': stack[top - 1] = a < b ? 1 : 0; break;
+                        case '=': stack[top - 1] = a == b ? 1 : 0; break;
+                        case '+': stack[top - 1] = a + b; break;
+                        case '-': stack[top - 1] = a - b; break;
+                        default: stack[top - 1] = a * b; break;
+                    }
                 }
             }
             return top > 0 ? stack[0] : 0;
-        }
-
-        private static int joined(int sign, int a, int b) {
-            switch (sign) {
-                case Reader.OR: return a != 0 || b != 0 ? 1 : 0;
-                case Reader.AND: return a != 0 && b != 0 ? 1 : 0;
-                case '<': return a < b ? 1 : 0;
-                case '=': return a == b ? 1 : 0;
-                case '+': return a + b;
-                case '-': return a - b;
-                default: return a * b;
-            }
         }
     }
 

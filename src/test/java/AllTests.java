@@ -15,6 +15,7 @@ public final class AllTests {
         ToldPromises.run();
         LotsPromises.run();
         HostPromises.run();
+        WildCalls.run();
         System.out.println(Check.summary());
         if (Check.failed() != 0) {
             System.exit(1);

@@ -28,6 +28,14 @@ final class BestPromises {
         Check.due("22: none better", x.ball(0), -1);
         Check.due("22: as so", x.ball(1), 18);
         Check.due("22: nobody met by that", x.told(1, 2), 1);
+        HuntersIntroduced y = new HuntersIntroduced();
+        Setting.hunters(y, 1, 2, 4, 8, 16, 32);
+        Setting.met(y, 1, 12, 23, 45);
+        y.friends(0, 1, 0);
+        y.put(0, 1, 0);
+        y.put(4, 1, 0);
+        y.put(5, 1, 1023);
+        Check.due("22: ten times the one", y.ball(0), 14);
         Check.due("22: what", x.ball(2), -2);
         Check.due("22: what below", x.ball(-1), -2);
     }
@@ -82,6 +90,8 @@ final class BestPromises {
         x.put(0, 0, 99);
         Check.due("24: 99 at most, the first", x.prize(0, 0), 1);
         Check.due("24: 99", x.prize(0, 1), 99);
+        x.put(0, 1, 1023);
+        Check.due("24: 99 at most, the very first", x.prize(0, 0), 0);
         Check.due("24: nothing changed", x.count(1), 9);
         Check.due("24: none such", x.prize(2, 2), -5);
         Check.due("24: none such below", x.prize(-1, 0), -5);

@@ -64,7 +64,10 @@ final class ForestPromises {
         Check.due("3: no such deer below", x.forest(2, -1, 5), -5);
         Check.due("3: alive", x.forest(2, 4, 0), 1);
         Check.due("3: not alive", x.forest(2, 4, 0), 0);
+        Check.due("3: told", x.deer(4, 1), 0);
         Check.due("3: alive again", x.forest(2, 4, 1), 0);
+        Check.due("3: told again", x.deer(4, 1), 1);
+        Check.due("3: all are", x.count(1), 10);
         Check.due("3: alive 2", x.forest(2, 4, 2), -7);
         Check.due("3: what 3", x.forest(3, 0, 0), -5);
         Check.due("3: what -1", x.forest(-1, 0, 5000), -5);
@@ -241,6 +244,11 @@ final class ForestPromises {
     }
 
     private static void toldSponsors() {
+        HuntersIntroduced shyOnes = Setting.under("honours shy; hits 0; wills shy;");
+        shyOnes.forest(1, 0, 9);
+        shyOnes.hunter(0, 0, 1);
+        Check.due("12: gains of no deer", shyOnes.told(0, 6), 0);
+        Check.due("12: wills of no deer", shyOnes.told(0, 5), 0);
         HuntersIntroduced x = new HuntersIntroduced();
         Setting.hunters(x, 1, 2 | 1, 4 | 512);
         Setting.met(x, 1, 12);

@@ -92,6 +92,11 @@ final class TextPromises {
         fault("honours\r3;", 7);
         fault("honours 3 > 2;", 10);
         fault("honours deer;", 8);
+        fault("honours shyz;", 8);
+        fault("honours dayz 1;", 8);
+        fault("honours a;", 8);
+        fault(";".repeat(160), 0);
+        fault("honours " + "-7".repeat(76), 160);
         fault("honours hits;", 8);
         fault("honours 1<2<3;", 11);
         fault("honours 1=2<3;", 11);
