@@ -7,6 +7,8 @@ public final class AllTests {
 
     public static void main(String[] args) throws Exception {
         FacePromises.run(Path.of(args[0]));
+        EndsPromises.run();
+        TermPromises.run();
         ForestPromises.run();
         TextPromises.run();
         IntroductionPromises.run();
@@ -15,6 +17,7 @@ public final class AllTests {
         ToldPromises.run();
         LotsPromises.run();
         HostPromises.run();
+        EdgeSweep.run();
         WildCalls.run();
         System.out.println(Check.summary());
         if (Check.failed() != 0) {

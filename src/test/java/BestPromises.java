@@ -48,6 +48,24 @@ final class BestPromises {
         Check.due("22: so", x.told(0, 8) + 10 * x.told(1, 8), 12);
         Check.due("22: met tells in thought", x.ball(0), -1);
         Check.due("22: as so, two", x.ball(1), 2);
+        HuntersIntroduced y = Setting.under("honours 0; hits 0; wills met=2;");
+        Setting.hunters(y, 1, 2);
+        Setting.met(y, 1);
+        Check.due("22: nobody meets oneself", y.ball(0), -1);
+        Check.due("22: to none", y.ball(1), 0);
+        HuntersIntroduced six = Setting.under("honours 0; hits 0; wills cards;");
+        Setting.hunters(six, 0, 0, 0, 0, 0, 1023);
+        Check.due("22: of six the first", six.ball(0), 5);
+        Check.due("22: to all ten", six.ball(1), 10);
+        Setting.met(six, 5, 15, 25, 35);
+        Check.due("22: the last of six", six.ball(0), 45);
+        Check.due("22: to all ten of all", six.ball(1), 50);
+        six.friends(4, 5, 1);
+        Check.due("22: none is left out", six.ball(0), -1);
+        Check.due("22: as it is", six.ball(1), 50);
+        six.forest(2, 0, 0);
+        six.put(0, 1, 512);
+        Check.due("22: alive, and not of one's cards", six.ball(1), 9 * 5 - 1);
     }
 
     private static void safest() {
@@ -92,6 +110,16 @@ final class BestPromises {
         Check.due("24: 99", x.prize(0, 1), 99);
         x.put(0, 1, 1023);
         Check.due("24: 99 at most, the very first", x.prize(0, 0), 0);
+        x.forest(1, 9, 98);
+        Check.due("24: 99 at most, the first of ten", x.prize(0, 0), 0);
+        x.put(0, 0, 98);
+        Check.due("24: 99 by any", x.prize(0, 0), 0);
+        x.put(0, 0, 88);
+        x.forest(1, 9, 88);
+        Check.due("24: the last", x.prize(0, 0), 9);
+        Check.due("24: by the last", x.prize(0, 1), 97);
+        x.forest(1, 9, 89);
+        Check.due("24: not by one that is too shy", x.prize(0, 1), 94);
         Check.due("24: nothing changed", x.count(1), 9);
         Check.due("24: none such", x.prize(2, 2), -5);
         Check.due("24: none such below", x.prize(-1, 0), -5);

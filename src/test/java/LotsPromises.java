@@ -72,6 +72,15 @@ final class LotsPromises {
             Check.due("34: above, " + least, x.odds(99990, 40, least, 0), many / divisor);
             Check.due("34: below, " + least, x.odds(99990, 40, least, 1), 40 / divisor);
         }
+        for (int seeds = 1; seeds <= 40; seeds++) {
+            long many = 0;
+            for (int seed = 0; seed < seeds; seed++) {
+                many += Long.bitCount(shots(seed, 20, 6) % 10000) >= 2 ? 1 : 0;
+            }
+            long divisor = java.math.BigInteger.valueOf(many).gcd(java.math.BigInteger.valueOf(seeds)).longValue();
+            Check.due("34: above, of " + seeds, x.odds(0, seeds, 2, 0), many / divisor);
+            Check.due("34: below, of " + seeds, x.odds(0, seeds, 2, 1), seeds / divisor);
+        }
         long no = HuntersIntroduced.NO;
         Check.due("34: in thought", x.count(1), 10);
         Check.due("34: seed", x.odds(100000, 1, 0, 0), no);

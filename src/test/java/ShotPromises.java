@@ -67,10 +67,19 @@ final class ShotPromises {
         Check.due("19: missed", x.aims(0, 1), 1);
         Check.due("19: poached", x.aims(0, 2), 3);
         Check.due("19: not alive", x.aims(0, 3), 0);
+        x.hunter(0, 99, 0);
+        Check.due("19: poached by another", x.aims(1, 0), 3);
+        x.put(1, 0, 0);
+        x.forest(1, 0, 1);
+        Check.due("19: missed by another", x.aims(1, 0), 1);
+        x.put(1, 1, 1);
+        x.put(1, 0, 1);
+        Check.due("19: hit by another", x.aims(1, 0), 2);
+        x.forest(1, 0, 0);
         Check.due("19: nothing changed", x.count(1), 9);
         Check.due("19: nothing changed, shy", x.deer(1, 0), 51);
         Check.due("19: nothing changed, honour", x.told(0, 0), 50);
-        Check.due("19: no hunter", x.aims(1, 10), -5);
+        Check.due("19: no hunter", x.aims(2, 10), -5);
         Check.due("19: no deer", x.aims(0, 10), -6);
         Check.due("19: no deer below", x.aims(0, -1), -6);
     }
@@ -93,6 +102,11 @@ final class ShotPromises {
         for (int what = 0; what < 5; what++) {
             Check.due("20: season " + what, x.season(0, 0, what), due[what]);
         }
+        Setting.row(x, 0, 1, 0, 1, 0, 0, 2);
+        int[] fewer = {1, 1, 3, 45, 1023 - 2 - 4};
+        for (int what = 0; what < 5; what++) {
+            Check.due("20: hit once, missed thrice " + what, x.season(0, 0, what), fewer[what]);
+        }
         Check.due("20: in thought", x.count(1), 10);
         Check.due("20: in thought, honour", x.told(0, 0), 50);
         Check.due("20: in thought, shy", x.deer(0, 0), 60);
@@ -105,6 +119,28 @@ final class ShotPromises {
         Check.due("20: missed thrice", x.season(0, 0, 2), 3);
         x.forest(0, 0, 999);
         Check.due("20: on the last day, too", x.season(0, 0, 2), 3);
+        seasonInThought();
+    }
+
+    /** All that tells of a shot is as it is truly, of each of the six and each DEER. */
+    private static void seasonInThought() {
+        HuntersIntroduced x = Setting.under("honours 0; hits honour+met+day*2; wills 1;");
+        for (int k = 0; k < 6; k++) {
+            x.hunter(10 * k + 3 + k, 20 + k, 1 << 9 | 1 << k);
+        }
+        Setting.met(x, 1, 2, 23, 45);
+        x.forest(0, 0, 5);
+        for (int p = 0; p < 6; p++) {
+            for (int d = 0; d < 10; d++) {
+                int hits = x.hits(p, d);
+                x.forest(1, d, Math.max(0, hits));
+                Setting.row(x, 0, 0, d);
+                int is = hits < 0 ? 2 : (x.told(p, 1) >> d & 1) == 1 ? 0 : 1;
+                Check.due("20: just hit in thought by " + p + " at " + d, x.season(0, p, is), 1);
+                x.forest(1, d, Math.max(0, hits) + 1);
+                Check.due("20: just missed in thought by " + p + " at " + d, x.season(0, p, 2), 1);
+            }
+        }
     }
 
     private static void seasonRefused() {
@@ -120,6 +156,12 @@ final class ShotPromises {
         Check.due("20: no deer", x.season(0, 2, 9), -2);
         x.cell(0, 5, -1);
         Check.due("20: no deer below", x.season(0, 0, 0), -2);
+        x.cell(0, 5, 4);
+        x.cell(0, 0, 10);
+        Check.due("20: the first is no deer", x.season(0, 0, 0), -2);
+        x.cell(0, 0, 0);
+        Check.due("20: all are deer", x.season(0, 0, 0), 2);
+        x.cell(0, 5, -1);
         Check.due("21: sheet", x.hunt(4, 9), -2);
         Check.due("21: missing", x.hunt(1, 9), -11);
         Check.due("21: no deer", x.hunt(0, 9), -2);

@@ -150,9 +150,18 @@ final class ToldPromises {
         Check.due("31: by which", x.laws(0, 1, 0), 1 | 4);
         x.force(1);
         Check.due("31: the law does not matter", x.laws(0, 1, 0), 1 | 4);
+        Setting.row(x, 1, 1, 57);
+        Check.due("31: not by the first", x.laws(0, 1, 0), 2);
+        x.cell(1, 0, 58);
+        Check.due("31: by none", x.laws(0, 1, 0), 0);
+        Setting.row(x, 1, 1, 50, 55, 45);
+        for (int t = 3; t < 6; t++) {
+            Setting.text(x, "honours 0; hits honour; wills " + t + ";");
+        }
+        Check.due("31: of all six", x.laws(0, 1, 0), 1 | 4 | 8 | 16 | 32);
         Check.due("31: the law stays", x.count(4), 1);
         Setting.row(x, 1, 0);
-        Check.due("31: all", x.laws(0, 1, 0), 7);
+        Check.due("31: all", x.laws(0, 1, 0), 63);
     }
 
     private static void film() {
