@@ -1072,8 +1072,9 @@ public final class HuntersIntroduced {
             int top = 0;
             for (int i = starts[part]; i < starts[part + 1]; i++) {
                 int step = code[i];
+                int name = step - Reader.NAMES;
                 if (step >= 0 && top < stack.length) {
-                    stack[top] = step < Reader.NAMES ? step : names[step - Reader.NAMES];
+                    stack[top] = name >= 0 && name < names.length ? names[name] : step;
                     top++;
                 } else if (step == -Reader.NEGATE && top >= 1) {
                     stack[top - 1] = -stack[top - 1];

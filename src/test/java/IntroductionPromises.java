@@ -171,5 +171,14 @@ final class IntroductionPromises {
         Check.due("17: its length", x.way(0, 0, 0), 2);
         x.friends(0, 5, 1);
         Check.due("17: at once", x.way(0, 0, 1), 6);
+        HuntersIntroduced y = new HuntersIntroduced();
+        Setting.hunters(y, 0, 0, 0, 1, 0, 0);
+        Setting.met(y, 15, 25, 23);
+        Check.due("17: not by the first, who has not met the next", y.way(5, 0, 1), 34);
+        Setting.met(y, 5, 3);
+        Check.due("17: by the very first", y.way(5, 0, 1), 14);
+        y.put(0, 1, 1);
+        Check.due("17: by the very first alone", y.way(5, 0, 1), 1);
+        Check.due("17: the very first is the sponsor", y.way(5, 0, 2), 0);
     }
 }

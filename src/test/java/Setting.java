@@ -4,9 +4,7 @@ final class Setting {
     }
 
     static void feed(HuntersIntroduced x, String bytes) {
-        for (int i = 0; i < bytes.length(); i++) {
-            x.feed(1, bytes.charAt(i), 0, 0, 0, 0);
-        }
+        RichForest.feed(Called.of(x), bytes);
     }
 
     static int text(HuntersIntroduced x, String bytes) {

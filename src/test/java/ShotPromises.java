@@ -124,13 +124,13 @@ final class ShotPromises {
 
     /** All that tells of a shot is as it is truly, of each of the six and each DEER. */
     private static void seasonInThought() {
-        HuntersIntroduced x = Setting.under("honours 0; hits honour+met+day*2; wills 1;");
-        for (int k = 0; k < 6; k++) {
-            x.hunter(10 * k + 3 + k, 20 + k, 1 << 9 | 1 << k);
-        }
-        Setting.met(x, 1, 2, 23, 45);
-        x.forest(0, 0, 5);
         for (int p = 0; p < 6; p++) {
+            HuntersIntroduced x = Setting.under("honours 0; hits honour+met+day*2; wills 1;");
+            for (int k = 0; k < 6; k++) {
+                x.hunter(10 * k + 3 + k, 20 + k, 1 << 9 | 1 << k);
+            }
+            Setting.met(x, 1, 2, 23, 45);
+            x.forest(0, 0, 5);
             for (int d = 0; d < 10; d++) {
                 int hits = x.hits(p, d);
                 x.forest(1, d, Math.max(0, hits));
