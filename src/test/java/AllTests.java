@@ -1,12 +1,13 @@
 import java.nio.file.Path;
 
-/** All tests of the project. The argument is the path of HuntersIntroduced.java. */
+/** All tests of the project. The arguments are the paths of HuntersIntroduced.java and of README.md. */
 public final class AllTests {
     private AllTests() {
     }
 
     public static void main(String[] args) throws Exception {
         FacePromises.run(Path.of(args[0]));
+        ReadmePromises.run(Path.of(args[1]));
         EndsPromises.run();
         TermPromises.run();
         ForestPromises.run();
